@@ -2,6 +2,7 @@
 public final class PromisesTest {
     private static final String HOUSE = "t3 20 4 0;t5 99 3 0;t11 10 5 0;t1 40 2 1;t24 60 1 0;v1;w4 3 250;";
     private static final String TWO = "t1 5 1 0;t2 6 1 0;";
+    private static final String NEAR = "t31 1 1 0;t30 1 1 0;t29 1 1 0;t27 1 1 0;t23 1 1 0;t15 1 1 0;";
 
     private static final Due due = new Due("PromisesTest");
 
@@ -39,6 +40,7 @@ public final class PromisesTest {
         keepAndBack();
         count();
         trace();
+        sevenThings();
         due.end();
     }
 
@@ -114,6 +116,9 @@ public final class PromisesTest {
         houseIs("t1 1 1 1", -18);
         houseIs("t1 1 1 1 ", -19);
         houseIs("t1 1 1 1 1;", -19);
+        houseIs("t;", -11);
+        houseIs("t1;", -12);
+        houseIs("t1 1;", -14);
         houseIs("t1 1 1;", -16);
         houseIs("t1 1 1 1;;", -19);
         houseIs("t1t", -12);
@@ -143,9 +148,23 @@ public final class PromisesTest {
         houseIs("w6 5 0;", -13);
         houseIs("w5 5 1000;", -15);
         houseIs("w5 5 012;", -15);
+        houseIs("w;", -11);
+        houseIs("w5;", -12);
         houseIs("w5 5;", -14);
         houseIs("w1 1 1;w", -17);
         houseIs("w1 1 1", -16);
+        houseIs(" ".repeat(199) + "t", -210);
+        houseIs(" ".repeat(198) + "t1", -210);
+        FirstOut x = new FirstOut();
+        Due.type(x, "v35;");
+        x.clear();
+        Due.type(x, "v3");
+        due.is("4: house(), letters cleared do not count", x.house(), -12);
+        x.clear();
+        Due.type(x, "v3;");
+        x.clear();
+        Due.type(x, "v3");
+        due.is("4: house(), a cleared end does not count", x.house(), -12);
     }
 
     private static void houseAnew() {
@@ -154,10 +173,11 @@ public final class PromisesTest {
         x.keep(0);
         x.keep(1);
         x.saw(0, 1);
+        due.is("4: day(0) before", x.day(0), 0);
         x.keepsIn(2, 1);
         x.swears(2);
         x.tells(0, 1);
-        x.day(0);
+        due.is("4: now(4) before", x.now(4), 1);
         Due.type(x, "t1 2 3 1;t2 4 6 0;t7 7 7 0;");
         due.is("4: house() anew", x.house(), 3);
         int[] counts = {3, 5, 0, 100, 0, 0};
@@ -451,6 +471,7 @@ public final class PromisesTest {
         due.is("17: means(8)", fewest.means(8), FirstOut.BAD);
         due.is("17: means(-1)", fewest.means(-1), FirstOut.BAD);
         due.is("17: means(1), the least", Due.told("t3 1 1 0;t0 1 1 0;").means(1), 1);
+        due.is("17: means(1), all traits", Due.told(NEAR).means(1), 31);
         FirstOut knows = Due.told("t1 5 1 1;t3 5 1 0;t4 5 0 0;v31;");
         due.is("17: means(2), one knows, one is not eager", knows.means(2), 0);
         due.is("17: means(1), it knows", knows.means(1), FirstOut.NONE);
@@ -470,6 +491,7 @@ public final class PromisesTest {
         due.is("18: span(), the least", Due.told("t3 1 0 1;t0 1 1 0;").span(), 1);
         due.is("18: span() of one", Due.told("t3 1 0 1;").span(), 0);
         due.is("18: span() of alike", Due.told("t3 1 1 0;t3 1 1 0;").span(), FirstOut.NONE);
+        due.is("18: span(), all traits", Due.told(NEAR).span(), 31);
         due.is("18: span() of none", new FirstOut().span(), FirstOut.NONE);
         FirstOut x = Due.told("t3 1 1 0;t3 1 1 0;");
         x.day(0);
@@ -509,7 +531,7 @@ public final class PromisesTest {
         due.is("20: tell() with one kept in", x.tell(), 5);
         x.tells(0, 1);
         due.is("20: tell() with one told", x.tell(), 4);
-        due.is("20: tell() of one that is not dear", Due.told("t1 0 1 0;t1 5 1 0;v1;").tell(), 2);
+        due.is("20: tell() of one that is not dear", Due.told("t1 0 1 0;t1 1 1 0;v1;").tell(), 2);
         due.is("20: tell() of one not eager", Due.told("t1 9 0 0;v1;").tell(), 0);
         due.is("20: tell() of none", new FirstOut().tell(), 0);
     }
@@ -562,10 +584,12 @@ public final class PromisesTest {
         y.saw(1, 0);
         y.saw(2, 0);
         fitIs(y, 2, 6, 6);
-        FirstOut given = Due.told("t3 1 1 0;");
+        FirstOut given = Due.told("t3 1 1 0;t0 1 0 1;");
         given.day(0);
         given.saw(0, 1);
         fitIs(given, 4, 0, 0);
+        given.saw(1, 0);
+        fitIs(given, 3, 1, 0);
         due.is("23: fit(-1)", x.fit(-1), FirstOut.BAD);
         due.is("23: fit(3)", x.fit(3), FirstOut.BAD);
     }
@@ -582,16 +606,23 @@ public final class PromisesTest {
         due.is("24: now(6)", x.now(6), 0);
         x.day(0);
         due.is("24: lost(5, 0), given up before", x.lost(5, 0), 1);
-        FirstOut days = Due.told(HOUSE);
-        int foreseen = days.lost(17, 7);
-        for (int z = 17; z < 24; z++) {
-            days.day(z);
+        for (int z = 9950; z <= 9999; z++) {
+            foreseen(z);
         }
-        due.is("24: seven days as foreseen", days.now(4), foreseen);
         due.is("24: lost(-1, 0)", x.lost(-1, 0), FirstOut.BAD);
         due.is("24: lost(10000, 0)", x.lost(10000, 0), FirstOut.BAD);
         due.is("24: lost(0, -1)", x.lost(0, -1), FirstOut.BAD);
         due.is("24: lost(0, 8)", x.lost(0, 8), FirstOut.BAD);
+    }
+
+    private static void foreseen(int z) {
+        FirstOut x = Due.told(HOUSE);
+        for (int n = 0; n < 7; n++) {
+            int next = z + n < 10000 ? z + n : z + n - 10000;
+            FirstOut y = Due.told(HOUSE);
+            x.day(next);
+            due.is("24: lost(" + z + ", " + (n + 1) + ") as it comes", y.lost(z, n + 1), x.now(4));
+        }
     }
 
     private static void draw() {
@@ -698,5 +729,27 @@ public final class PromisesTest {
         due.is("30: trace() is not undone", x.trace(), 2022);
         x.house();
         due.is("30: trace() behind house()", x.trace(), 2022);
+    }
+
+    private static void sevenThings() {
+        FirstOut x = Due.told("t1 10 1 0;t2 20 2 0;t4 30 3 0;t8 40 4 0;t16 50 5 0;t31 60 6 0;t0 70 7 0;w10 0 0;");
+        due.is("5: thing(6, 1)", x.thing(6, 1), 70);
+        due.is("5: thing(7, 1)", x.thing(7, 1), FirstOut.BAD);
+        due.is("6: now(2) of seven", x.now(2), 127);
+        due.is("6: now(3) of seven", x.now(3), 127);
+        harmIs(x, 50, 1);
+        fraction("13: odds(6)", x.odds(6, 0), x.odds(6, 1), 1, 4);
+        due.is("15: sense(0) of seven", x.sense(0), 127);
+        due.is("17: means(127)", x.means(127), 0);
+        due.is("17: means(128)", x.means(128), FirstOut.BAD);
+        shutIs(x, 1, 64, 130, 3);
+        shutIs(x, 7, 127, 0, 1);
+        due.is("20: tell() of seven", x.tell(), 127);
+        int[] came = {4, 6, 3, 1, 0, 2, 5, FirstOut.NONE};
+        for (int i = 0; i < came.length; i++) {
+            due.is("10: day " + i + " of seven", x.day(10 * (i + 1)), came[i]);
+        }
+        due.is("6: now(5) of seven", x.now(5), 280);
+        due.is("24: lost(0, 7) of seven", x.lost(0, 7), 127);
     }
 }
