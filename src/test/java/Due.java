@@ -17,6 +17,15 @@ final class Due {
         System.out.println(name + ", " + call + " answered " + got + ", due is " + want);
     }
 
+    void is(String what, String got, String want) {
+        if (got.equals(want)) {
+            right++;
+            return;
+        }
+        wrong++;
+        System.out.println(name + ", " + what + " is\n" + got + "due is\n" + want);
+    }
+
     void isTrue(String what, boolean so) {
         is(what, so ? 1 : 0, 1);
     }
