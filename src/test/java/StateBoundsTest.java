@@ -461,6 +461,9 @@ public final class StateBoundsTest {
         due.is("19: shut(2, 0)", two.shut(2, 0), 3);
         due.is("19: shut(7, 0), the fewest", two.shut(7, 0), 3);
         fraction("19: shut(7)", two.shut(7, 1), two.shut(7, 2), 0, 1);
+        FirstOut close = Due.told("t1 9 1 0;t1 11 2 0;t1 12 1 0;");
+        due.is("19: shut(1, 0), fractions close to one another", close.shut(1, 0), 4);
+        fraction("19: shut(1)", close.shut(1, 1), close.shut(1, 2), 31, 3);
         due.is("19: shut(7, 0) without harm", Due.told("t1 0 1 0;t1 9 0 0;v1;").shut(7, 0), 0);
     }
 
@@ -490,12 +493,12 @@ public final class StateBoundsTest {
 
     private static void traceOfManyCalls() {
         FirstOut x = Due.told("t1 1 1 0;");
-        for (int n = 1; n <= 500; n++) {
+        for (int n = 1; n <= 490; n++) {
             x.rate(5, 0);
         }
-        due.is("30: trace() of 500 priests", x.trace(), 50000500L);
+        due.is("30: trace() of 490 priests", x.trace(), 49000490L);
         due.is("26: rate(6, 0)", x.rate(6, 0), FirstOut.NO);
-        due.is("30: trace() behind NO", x.trace(), 50000500L);
+        due.is("30: trace() behind NO", x.trace(), 49000490L);
     }
 
     /** "IMAGES 0, 1 keep NOW (WORDS, who KNOWS, is KEPT in, was GIVEN up, THE DAY)". */

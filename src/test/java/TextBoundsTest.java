@@ -28,6 +28,7 @@ public final class TextBoundsTest {
         everyLetterForTheEnd();
         firstFaultCounts();
         faultyTextStays();
+        faultyTextIsForgotten();
         readAnew();
         anewWithoutVowAndWar();
         due.end();
@@ -337,6 +338,30 @@ public final class TextBoundsTest {
         due.is("2: told on", x.type(';'), 3);
         due.is("4: house() of the whole", x.house(), 1);
         due.is("6: WORDS", x.now(1), 9);
+    }
+
+    /** What stands ahead of a FAULT is not in the next text, nor is what stood in the text before that. */
+    private static void faultyTextIsForgotten() {
+        FirstOut x = lived();
+        Due.type(x, "t1 1 1 1;v9;w1 1 1;?");
+        due.is("4: a fault behind items", x.house(), -29);
+        x.clear();
+        asAtFirst(x);
+        Due.type(x, "t1 1 1 1;v9;w1 1 1;");
+        due.is("4: the items without the fault", x.house(), 3);
+        asAtFirst(x);
+        asAtFirst(x);
+    }
+
+    private static void asAtFirst(FirstOut x) {
+        Due.type(x, "t2 3 4 0;");
+        due.is("4: a thing alone", x.house(), 1);
+        due.is("5: TRAITS", x.thing(0, 0), 2);
+        due.is("5: KNOWS", x.thing(0, 3), 0);
+        due.is("6: WORDS", x.now(1), 0);
+        due.is("29: ODDS", x.count(1), 5);
+        due.is("29: HELP", x.count(2), 0);
+        due.is("29: WORTH", x.count(3), 100);
     }
 
     /** "Read anew: as told, DAY 0, nothing GIVEN up, SEEN, IMAGES are gone." */
