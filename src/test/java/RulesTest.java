@@ -1,4 +1,6 @@
+import com.sun.management.ThreadMXBean;
 import java.io.IOException;
+import java.lang.management.ManagementFactory;
 import java.lang.reflect.Field;
 import java.lang.reflect.Method;
 import java.lang.reflect.Modifier;
@@ -33,7 +35,9 @@ public final class RulesTest {
         constants();
         sizes();
         barredWords();
+        methodLengths();
         neverThrows();
+        room();
         due.end();
     }
 
@@ -102,6 +106,54 @@ public final class RulesTest {
         for (String barred : BARRED) {
             due.isTrue("no " + barred, !Pattern.compile(barred).matcher(code).find());
         }
+    }
+
+    /** A class's own end comes right behind its last method's, so it may be taken for one. */
+    private static void methodLengths() throws IOException {
+        Pattern head = Pattern.compile(" {4}(?: {4})?(?!if|for|while|switch)\\w[\\w\\[\\] ]*\\([^)]*\\) \\{");
+        int length = 0;
+        int heads = 0;
+        for (String line : Files.readAllLines(SOURCE)) {
+            length++;
+            if (head.matcher(line).matches()) {
+                length = 1;
+                heads++;
+            }
+            boolean end = line.equals("    }") || line.equals("        }");
+            due.isTrue("methods have at most sixty lines", !end || length <= 60);
+        }
+        due.isTrue("methods were found: " + heads, heads >= FACE.length + 1);
+    }
+
+    /** All calls of a run share one room, so an object takes little and its calls make nothing. */
+    private static void room() {
+        ThreadMXBean counter = (ThreadMXBean) ManagementFactory.getThreadMXBean();
+        long thread = Thread.currentThread().getId();
+        FirstOut[] made = new FirstOut[100];
+        everyCall(new FirstOut());
+        long before = counter.getThreadAllocatedBytes(thread);
+        for (int i = 0; i < made.length; i++) {
+            made[i] = new FirstOut();
+        }
+        long between = counter.getThreadAllocatedBytes(thread);
+        for (FirstOut x : made) {
+            everyCall(x);
+        }
+        long behind = counter.getThreadAllocatedBytes(thread);
+        due.isTrue("an object takes " + (between - before) / 100, (between - before) / 100 < 4000);
+        due.isTrue("every call once makes " + (behind - between) / 100, (behind - between) / 100 < 16);
+    }
+
+    private static void everyCall(FirstOut x) {
+        String text = "t1 9 9 0;t3 8 0 1;t7 7 1 0;v1;w3 4 5;";
+        for (int i = 0; i < text.length(); i++) {
+            x.type(text.charAt(i));
+        }
+        long sum = x.house() + x.thing(0, 7) + x.now(3) + x.swears(3) + x.keepsIn(0, 1) + x.tells(2, 1) + x.day(5)
+            + x.undo() + x.harm(0) + x.odds(0, 1) + x.swear(0) + x.sense(2) + x.both(1) + x.means(7) + x.span()
+            + x.shut(7, 1) + x.tell() + x.saw(0, 1) + x.forget() + x.fit(2) + x.lost(9999, 7) + x.draw(0, 0)
+            + x.rate(3, 0) + x.keep(0) + x.back(0) + x.count(0) + x.clear() + x.trace();
+        due.isTrue("the calls have an answer", sum != Long.MIN_VALUE);
     }
 
     /** Any call in any state, far behind the 512th too, comes to an end without an exception. */
